@@ -811,8 +811,9 @@ public final class MouthsToJudge {
 
     /** In how many of all cases each sense comes as which, as the mouths are passed one by one. */
     private static final class Odds {
-        private final long[] cells = new long[SENSES * SENSES];
-        private final long[] line = new long[SENSES];
+        /** A column for each sense that comes, in it a cell for each that was said. */
+        private long[] cells = new long[SENSES * SENSES];
+        private long[] behind = new long[SENSES * SENSES];
         private long below = 1;
 
         void clear() {
@@ -829,27 +830,29 @@ public final class MouthsToJudge {
         }
 
         void pass(int kind, int skill) {
-            for (int s = 0; s < SENSES; s++) {
-                passLine(s, kind, skill);
+            Arrays.fill(behind, 0L);
+            for (int t = 0; t < SENSES; t++) {
+                int made = turned(kind, t);
+                pour(t, made, skill);
+                pour(t, slipped(made), FULL_SKILL - skill);
             }
+            long[] spare = cells;
+            cells = behind;
+            behind = spare;
             below *= FULL_SKILL;
         }
 
-        private void passLine(int s, int kind, int skill) {
-            Arrays.fill(line, 0L);
-            for (int t = 0; t < SENSES; t++) {
-                long cases = cells[s * SENSES + t];
-                if (cases != 0) {
-                    int made = turned(kind, t);
-                    line[made] += cases * skill;
-                    line[slipped(made)] += cases * (FULL_SKILL - skill);
-                }
+        private void pour(int from, int into, int tenths) {
+            if (tenths == 0 || !isSense(from) || !isSense(into)) {
+                return;
             }
-            System.arraycopy(line, 0, cells, s * SENSES, SENSES);
+            for (int s = 0; s < SENSES; s++) {
+                behind[into * SENSES + s] += cells[from * SENSES + s] * tenths;
+            }
         }
 
         long above(int s, int t) {
-            return isSense(s) && isSense(t) ? cells[s * SENSES + t] : 0;
+            return isSense(s) && isSense(t) ? cells[t * SENSES + s] : 0;
         }
 
         long below() {
@@ -867,7 +870,7 @@ public final class MouthsToJudge {
         long kept() {
             long sum = 0;
             for (int s = 0; s < SENSES; s++) {
-                sum += cells[s * SENSES + s];
+                sum += above(s, s);
             }
             return sum;
         }
@@ -879,6 +882,19 @@ public final class MouthsToJudge {
                 int made = turned(kind, t);
                 sum += above(made, t) * skill;
                 sum += above(slipped(made), t) * (FULL_SKILL - skill);
+            }
+            return sum;
+        }
+
+        /** No mouths behind can keep more: of what comes as one sense, they guess the likeliest. */
+        long keptAtMost() {
+            long sum = 0;
+            for (int t = 0; t < SENSES; t++) {
+                long likeliest = 0;
+                for (int s = 0; s < SENSES; s++) {
+                    likeliest = Math.max(likeliest, cells[t * SENSES + s]);
+                }
+                sum += likeliest;
             }
             return sum;
         }
@@ -956,27 +972,32 @@ public final class MouthsToJudge {
             }
         }
 
-        /** Rows of a length are met in their order, so an equal one counts only if it is shorter. */
         private void weigh(Court court, int depth) {
             int who = row[depth];
             long here = levels[depth].keptBehind(court.trait(who, KIND), court.trait(who, SKILL));
             here *= SCALE[depth + 1];
-            if (here > most || here == most && depth + 1 < lengths[limit]) {
+            if (isBetter(here, depth + 1)) {
                 most = here;
                 lengths[limit] = depth + 1;
                 System.arraycopy(row, 0, rows, limit * MAX_MOUTHS, depth + 1);
             }
         }
 
-        /** Makes the next level's odds ready, if there is such a level. */
+        /** Makes the next level's odds ready; false, if no row beyond can be better. */
         private boolean descend(Court court, int depth) {
             if (depth + 1 >= limit || depth + 1 >= court.mouths()) {
                 return false;
             }
             int who = row[depth];
-            levels[depth + 1].copyFrom(levels[depth]);
-            levels[depth + 1].pass(court.trait(who, KIND), court.trait(who, SKILL));
-            return true;
+            Odds next = levels[depth + 1];
+            next.copyFrom(levels[depth]);
+            next.pass(court.trait(who, KIND), court.trait(who, SKILL));
+            return isBetter(next.keptAtMost() * SCALE[depth + 1], depth + 2);
+        }
+
+        /** Rows of a length are met in their order, so an equal one counts only if it is shorter. */
+        private boolean isBetter(long here, int length) {
+            return here > most || here == most && length < lengths[limit];
         }
     }
 }

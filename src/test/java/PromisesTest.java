@@ -183,6 +183,8 @@ public final class PromisesTest {
         faultOf(seven + "t0,1;i0,1,0,1,1;", 82);
         faultOf("t0,1;\u0000", 5);
         faultOf("t0,1;\u00f4", 5);
+        faultOf("\u00f40,1;", 0);
+        faultOf("t\u00b0,1;", 0);
         // 0x174 has the byte of t: a text holds bytes alone.
         MouthsToJudge court = new MouthsToJudge();
         court.write(1, 0x174);
