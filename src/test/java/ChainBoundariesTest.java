@@ -343,6 +343,17 @@ public final class ChainBoundariesTest {
                     }
                 }
             });
+        Boundaries.of(15, "the first k of THE CHAIN", () -> {
+            // The first of THE CHAIN, not those of the lowest numbers.
+            MouthsToJudge court = Boundaries.laid("i0,1,0,0,0;i0,1,1,0,0;i0,1,4,0,0;", 2, 0, 1);
+            Boundaries.speak(court, 1, 2);
+            int[][] said = {{1, 2, 2, 3}, {2, 1, 1, 1}};
+            for (int i = 0; i < 2; i++) {
+                for (int k = 0; k <= 3; k++) {
+                    due("said(" + i + ", " + k + ")", court.said(i, k), said[i][k]);
+                }
+            }
+        });
         Boundaries.of(15, "NONE: not so many words", () -> {
             MouthsToJudge court = sevenMouths();
             due("said(0, 0) of none", court.said(0, 0), NONE);

@@ -10,6 +10,7 @@ public final class OddsBoundariesTest {
         comingBack();
         bestRows();
         bestAmongEquals();
+        bestOfLengths();
         bestAnswers();
         bribing();
         bribingAmongEquals();
@@ -328,7 +329,9 @@ public final class OddsBoundariesTest {
             best("t0,1;i0,1,2,10,0;i0,1,4,10,0;", 1, 1);
             // Two CONTRARY ones keep all, as one does not.
             best("t0,0;i0,1,4,10,0;i0,1,4,10,0;i0,1,0,9,0;", 7, 0, 1);
-            // SLIPS count: what slips ahead may be turned back behind.
+            // A slip may keep, too: NO, turned about to YES, slips back to NO.
+            best("t0,1;i0,1,0,0,0;i0,1,4,0,0;", 7, 1);
+            best("t0,0;i0,1,0,0,0;i0,1,0,0,0;i0,1,4,0,0;i0,1,4,0,0;", 2, 2, 3);
             best("t0,2;i0,1,0,0,0;i1,2,0,10,0;i0,1,0,1,0;", 7, 2, 1);
         });
         Boundaries.of(19, "of several the shortest", () -> {
@@ -350,7 +353,60 @@ public final class OddsBoundariesTest {
         });
     }
 
+    /** Two ways from 0 to 2, straight by C or through A and B, then on by as many as are told. */
+    private static String twoWays(boolean straightFirst, String skillAside, int more) {
+        String aside = "i0,1,0," + skillAside + ",0;i1,2,0,10,0;";
+        String straight = "i0,2,0,10,0;";
+        StringBuilder text = new StringBuilder("t0,").append(2 + more).append(';')
+            .append(straightFirst ? straight + aside : aside + straight);
+        for (int k = 0; k < more; k++) {
+            text.append("i").append(2 + k).append(',').append(3 + k).append(",0,9,0;");
+        }
+        return text.toString();
+    }
+
+    private static int[] row(int more, int... ahead) {
+        int[] row = new int[ahead.length + more];
+        System.arraycopy(ahead, 0, row, 0, ahead.length);
+        for (int k = 0; k < more; k++) {
+            row[ahead.length + k] = 3 + k;
+        }
+        return row;
+    }
+
+    private static void bestOfLengths() {
+        Boundaries.of(19, "of several the shortest", () -> {
+            // A row of each length against one longer by one that keeps as much.
+            for (int more = 0; more <= 4; more++) {
+                best(twoWays(false, "10", more), 7, row(more, 2));
+                best(twoWays(true, "10", more), 7, row(more, 0));
+            }
+            // Five, or seven that keep as much: three of 0 and 1 ahead of four more.
+            best("t0,5;i0,1,0,10,0;i1,0,0,10,0;i0,1,0,10,0;i1,2,0,9,0;i2,3,0,9,0;i3,4,0,9,0;"
+                + "i4,5,0,9,0;", 7, 0, 3, 4, 5, 6);
+        });
+        Boundaries.of(19, "that by which most is KEPT", () -> {
+            // The longer one by one keeps more: the straight way slips once of ten times.
+            for (int more = 0; more <= 4; more++) {
+                String text = twoWays(false, "10", more).replace("i0,2,0,10,0;", "i0,2,0,9,0;");
+                best(text, 7, row(more, 0, 1));
+            }
+            // Seven: who goes on by 3 may be 2 alone, and it is turned about unless by two.
+            best("t0,5;i0,1,4,10,0;i1,0,0,10,0;i0,1,4,10,0;i1,2,0,9,0;i2,3,0,9,0;i3,4,0,9,0;"
+                + "i4,5,0,9,0;h0,3;h1,3;", 7, ALL);
+            best("t0,5;i0,1,4,10,0;i1,0,0,10,0;i0,1,4,10,0;i1,2,0,9,0;i2,3,0,9,0;i3,4,0,9,0;"
+                + "i4,5,0,9,0;h0,3;h1,3;", 6, 2, 3, 4, 5, 6);
+        });
+    }
+
     private static void bestAnswers() {
+        Boundaries.of(19, "BEST", () -> {
+            // That of the court at first, ahead of any that is laid.
+            MouthsToJudge court = new MouthsToJudge();
+            for (int m = 1; m <= 7; m++) {
+                best(court, m, 0);
+            }
+        });
         Boundaries.of(19, "BEST: how long (i = -1), the i-th.", () -> {
             MouthsToJudge court = Boundaries.laid("t0,2;i1,2,0,10,0;i0,1,0,10,0;");
             due("best(2, -1)", court.best(2, -1), 2);
@@ -529,6 +585,8 @@ public final class OddsBoundariesTest {
             // By POLITE nine of ten senses come as themselves.
             parrot(Boundaries.laid("i0,1,1,10,0;i0,1,0,0,0;", 0, 1), 1, 1, 9, 10);
             parrot(Boundaries.laid("i0,1,4,10,0;i0,1,0,0,0;", 0, 1), 1, 1, 4, 5);
+            // By a CONTRARY one who slips always NO alone comes as itself.
+            parrot(Boundaries.laid("i0,1,4,0,0;i0,1,0,0,0;", 0, 1), 1, 1, 1, 10);
             parrot(Boundaries.laid("i0,1,0,0,0;i0,1,0,0,0;", 0, 1), 1, 0, 0, 1);
         });
         Boundaries.of(21, "none (there are fewer than n)", () -> {

@@ -188,11 +188,14 @@ public final class TextBoundariesTest {
             due("wipe() of 200", court.wipe(), 200);
             due("write(8)", court.write(8, 0), 8);
             due("wipe()", court.wipe(), 8);
-            // What was written ahead is not read again.
+            // What was written ahead is not read again, neither behind nor within an ITEM.
             Boundaries.write(court, "t0,1;x");
             court.wipe();
             Boundaries.write(court, "t0,1;");
             due("fault()", court.fault(), NONE);
+            court.wipe();
+            Boundaries.write(court, "t0,1");
+            due("fault()", court.fault(), 0);
         });
         Boundaries.of(3, "THE TEXT is empty", () -> {
             // And nothing else is.
@@ -273,6 +276,19 @@ public final class TextBoundariesTest {
             faultOf("t1," + (char) b + ";", tongue ? NONE : 0);
             faultOf("t0" + (char) b + ",1;", tongue ? NONE : 0);
         }
+        for (int b = 0; b < 256; b++) {
+            boolean figure = b >= '0' && b <= '9';
+            faultOf("i" + (char) b + ",1,0,1,1;", figure && b < '9' && b != '1' ? NONE : 0);
+            faultOf("i0," + (char) b + ",0,1,1;", figure && b < '9' && b != '0' ? NONE : 0);
+            faultOf("i0,1," + (char) b + ",1,1;", figure && b < '6' ? NONE : 0);
+            faultOf("i0,1,0," + (char) b + ",1;", figure ? NONE : 0);
+            faultOf("i0,1,0,1" + (char) b + ",1;", b == '0' ? NONE : 0);
+            faultOf("i0,1,0,1," + (char) b + ";", figure ? NONE : 0);
+            // A ; is behind the number then, and at fault is the one behind that.
+            faultOf("i0,1,0,1,9" + (char) b + ";", figure ? NONE : b == ';' ? 11 : 0);
+            faultOf(ONE + ONE + "h" + (char) b + ",1;", b == '0' ? NONE : 22);
+            faultOf(ONE + ONE + "h1," + (char) b + ";", b == '0' ? NONE : 22);
+        }
         faultOf("t,1;", 0);
         faultOf("t1,;", 0);
         faultOf("t08,00;", NONE);
@@ -302,6 +318,18 @@ public final class TextBoundariesTest {
             MouthsToJudge court = Boundaries.laid("t8,7;" + ONE);
             due("count(6)", court.count(6), 8);
             due("count(7)", court.count(7), 7);
+            court.wipe();
+            Boundaries.write(court, ONE);
+            due("lay()", court.lay(), 1);
+            due("count(6)", court.count(6), 0);
+            due("count(7)", court.count(7), 1);
+            // Nor do those count that were told two courts ago, or in a text at fault.
+            due("lay()", court.lay(), 1);
+            due("count(6)", court.count(6), 0);
+            due("count(7)", court.count(7), 1);
+            Boundaries.write(court, "t6,6;x");
+            due("fault()", court.fault(), 16);
+            due("lay()", court.lay(), NO);
             court.wipe();
             Boundaries.write(court, ONE);
             due("lay()", court.lay(), 1);
@@ -398,6 +426,32 @@ public final class TextBoundariesTest {
                 due("best(7, -1)", Boundaries.laid(forth + hate).best(7, -1), NONE);
                 due("best(7, -1)", Boundaries.laid(back + hate).best(7, -1), NONE);
             }
+            // Each of those whom one hates, whichever was told last.
+            String more = "i1,2,0,9,0;";
+            due("best(7, 1)", Boundaries.laid(forth + more + "h0,1;").best(7, 1), 2);
+            due("best(7, 1)", Boundaries.laid(forth + more + "h2,0;").best(7, 1), 1);
+            due("best(7, 1)", Boundaries.laid(forth + more + "h0,1;h0,2;").best(7, 1), NONE);
+            due("best(7, 1)", Boundaries.laid(forth + more + "h2,0;h1,0;").best(7, 1), NONE);
+            due("best(7, 1)", Boundaries.laid(forth + more + "h1,0;h1,2;h0,2;").best(7, 1), NONE);
+        });
+        Boundaries.of(5, "LAID: how many INTERPRETERS", () -> {
+            // Who hated whom at another court, or in a text at fault, does not hate here.
+            String forth = "t0,2;i0,1,0,9,0;i1,2,0,9,0;";
+            MouthsToJudge court = Boundaries.laid(forth + "h0,1;");
+            due("best(7, -1)", court.best(7, -1), NONE);
+            court.wipe();
+            Boundaries.write(court, forth);
+            for (int k = 0; k < 3; k++) {
+                due("lay()", court.lay(), 2);
+                due("best(7, -1)", court.best(7, -1), 2);
+            }
+            Boundaries.write(court, "h0,1;x");
+            due("lay()", court.lay(), NO);
+            due("best(7, -1)", court.best(7, -1), 2);
+            court.wipe();
+            Boundaries.write(court, forth);
+            due("lay()", court.lay(), 2);
+            due("best(7, -1)", court.best(7, -1), 2);
         });
     }
 

@@ -5,6 +5,8 @@ public final class TrialBoundariesTest {
     private static final int BAD = Boundaries.BAD, NO = Boundaries.NO, FULL = Boundaries.FULL,
         NONE = Boundaries.NONE;
     private static final int[] ALL = {0, 1, 2, 3, 4, 5, 6};
+    private static final String ORDER =
+        "Of several the first in this order, whatever the order at a call";
 
     public static void main(String[] args) {
         trying();
@@ -269,6 +271,16 @@ public final class TrialBoundariesTest {
             court.again();
             Boundaries.chainIs(court, 2, 0);
             Boundaries.sentenceIs(court, 5, 1);
+            // Another row of as many, and other words, ahead of what comes again.
+            court.keep();
+            court.unseat();
+            court.unseat();
+            Boundaries.seat(court, 1, 2);
+            court.silence();
+            Boundaries.speak(court, 3, 7);
+            court.again();
+            Boundaries.chainIs(court, 2, 0);
+            Boundaries.sentenceIs(court, 5, 1);
         });
         Boundaries.of(24, "THE CHAIN and THE SENTENCE", () -> {
             // None and none can be kept; so can all seven and twelve.
@@ -366,45 +378,45 @@ public final class TrialBoundariesTest {
     // ---- what is refused
 
     private static void firstInTheOrder() {
-        Boundaries.of(2, "Of several the first in this order: BAD, FULL", () -> {
+        Boundaries.of(2, ORDER, () -> {
             MouthsToJudge court = Boundaries.written("x".repeat(200));
             due("write(0, 0)", court.write(0, 0), BAD);
             due("write(9, 0)", court.write(9, 0), BAD);
             due("write(8, 0)", court.write(8, 0), FULL);
         });
-        Boundaries.of(13, "Of several the first in this order: BAD, FULL", () -> {
+        Boundaries.of(13, ORDER, () -> {
             due("word(10)", twelve().word(10), BAD);
             due("word(-1)", twelve().word(-1), BAD);
             due("word(9)", twelve().word(9), FULL);
         });
-        Boundaries.of(15, "whatever the order at a call: NONE; BAD", () -> {
+        Boundaries.of(15, ORDER, () -> {
             due("said(12, 1)", twelve().said(12, 1), BAD);
             due("said(12, -1)", twelve().said(12, -1), BAD);
             due("said(12, 0)", twelve().said(12, 0), NONE);
         });
-        Boundaries.of(17, "whatever the order at a call: NONE; BAD", () -> {
+        Boundaries.of(17, ORDER, () -> {
             MouthsToJudge court = Boundaries.laid("i0,1,1,10,0;", 0);
             due("was(10, 2, 0)", court.was(10, 2, 0), BAD);
             due("was(0, 2, 2)", court.was(0, 2, 2), BAD);
             due("was(0, 2, 0)", court.was(0, 2, 0), NONE);
         });
-        Boundaries.of(19, "whatever the order at a call: NONE; BAD", () -> {
+        Boundaries.of(19, ORDER, () -> {
             MouthsToJudge court = Boundaries.laid("t0,5;i0,1,1,10,0;");
             due("best(0, 9)", court.best(0, 9), BAD);
             due("best(8, -1)", court.best(8, -1), BAD);
             due("best(1, -2)", court.best(1, -2), BAD);
             due("best(1, 9)", court.best(1, 9), NONE);
         });
-        Boundaries.of(20, "whatever the order at a call: NONE; BAD", () -> {
+        Boundaries.of(20, ORDER, () -> {
             due("bribes(2)", new MouthsToJudge().bribes(2), BAD);
             due("bribes(1)", new MouthsToJudge().bribes(1), NONE);
         });
-        Boundaries.of(21, "whatever the order at a call: NONE; BAD", () -> {
+        Boundaries.of(21, ORDER, () -> {
             due("parrot(7, 3)", new MouthsToJudge().parrot(7, 3), BAD);
             due("parrot(8, 0)", new MouthsToJudge().parrot(8, 0), BAD);
             due("parrot(7, 2)", new MouthsToJudge().parrot(7, 2), NONE);
         });
-        Boundaries.of(22, "NONE: not so many words; BAD (i below 0), whatever the order", () -> {
+        Boundaries.of(22, ORDER, () -> {
             due("trial(10000, 12)", twelve().trial(10000, 12), BAD);
             due("trial(-1, 12)", twelve().trial(-1, 12), BAD);
             due("trial(9999, 12)", twelve().trial(9999, 12), NONE);
