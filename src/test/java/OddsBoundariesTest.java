@@ -354,13 +354,14 @@ public final class OddsBoundariesTest {
     }
 
     /** Two ways from 0 to 2, straight by C or through A and B, then on by as many as are told. */
-    private static String twoWays(boolean straightFirst, String skillAside, int more) {
-        String aside = "i0,1,0," + skillAside + ",0;i1,2,0,10,0;";
+    private static String twoWays(boolean straightFirst, int more, int skillOfMore) {
+        String aside = "i0,1,0,10,0;i1,2,0,10,0;";
         String straight = "i0,2,0,10,0;";
         StringBuilder text = new StringBuilder("t0,").append(2 + more).append(';')
             .append(straightFirst ? straight + aside : aside + straight);
         for (int k = 0; k < more; k++) {
-            text.append("i").append(2 + k).append(',').append(3 + k).append(",0,9,0;");
+            text.append("i").append(2 + k).append(',').append(3 + k).append(",0,")
+                .append(skillOfMore).append(",0;");
         }
         return text.toString();
     }
@@ -378,8 +379,10 @@ public final class OddsBoundariesTest {
         Boundaries.of(19, "of several the shortest", () -> {
             // A row of each length against one longer by one that keeps as much.
             for (int more = 0; more <= 4; more++) {
-                best(twoWays(false, "10", more), 7, row(more, 2));
-                best(twoWays(true, "10", more), 7, row(more, 0));
+                for (int skill : new int[] {0, 9, 10}) {
+                    best(twoWays(false, more, skill), 7, row(more, 2));
+                    best(twoWays(true, more, skill), 7, row(more, 0));
+                }
             }
             // Five, or seven that keep as much: three of 0 and 1 ahead of four more.
             best("t0,5;i0,1,0,10,0;i1,0,0,10,0;i0,1,0,10,0;i1,2,0,9,0;i2,3,0,9,0;i3,4,0,9,0;"
@@ -388,9 +391,11 @@ public final class OddsBoundariesTest {
         Boundaries.of(19, "that by which most is KEPT", () -> {
             // The longer one by one keeps more: the straight way slips once of ten times.
             for (int more = 0; more <= 4; more++) {
-                String text = twoWays(false, "10", more).replace("i0,2,0,10,0;", "i0,2,0,9,0;");
+                String text = twoWays(false, more, 9).replace("i0,2,0,10,0;", "i0,2,0,9,0;");
                 best(text, 7, row(more, 0, 1));
             }
+            // 602 of 1000 is more than 6 of 10: NO is turned about, and slips back by one of two.
+            best("t0,2;i0,1,4,9,0;i1,2,0,8,0;i0,2,0,6,0;", 7, 0, 1);
             // Seven: who goes on by 3 may be 2 alone, and it is turned about unless by two.
             best("t0,5;i0,1,4,10,0;i1,0,0,10,0;i0,1,4,10,0;i1,2,0,9,0;i2,3,0,9,0;i3,4,0,9,0;"
                 + "i4,5,0,9,0;h0,3;h1,3;", 7, ALL);
