@@ -402,6 +402,30 @@ public final class OddsBoundariesTest {
             best("t0,5;i0,1,4,10,0;i1,0,0,10,0;i0,1,4,10,0;i1,2,0,9,0;i2,3,0,9,0;i3,4,0,9,0;"
                 + "i4,5,0,9,0;h0,3;h1,3;", 6, 2, 3, 4, 5, 6);
         });
+        Boundaries.of(19, "that by which most is KEPT", () -> {
+            // A millionth tells: six keep 0.999999 and 0.800001, he alone 1, 0.8.
+            int[] six = {0, 1, 2, 3, 4, 5};
+            String less = "t0,6;i0,1,4,9,0;i1,2,0,9,0;i2,3,0,3,0;i3,4,0,7,0;i4,5,4,7,0;i5,6,1,9,0;";
+            best(less + "i0,6,0,1,0;", 7, 6);
+            best(less + "i0,6,0,1,0;", 5, 6);
+            best(less + "i0,6,1,1,0;", 7, six);
+            keptBySix(less, 999999);
+            String more = "t0,6;i0,1,4,9,0;i1,2,3,7,0;i2,3,5,9,0;i3,4,3,3,0;i4,5,4,3,0;i5,6,3,7,0;";
+            best(more + "i0,6,5,1,0;", 7, six);
+            best(more + "i0,6,5,1,0;", 5, 6);
+            best(more + "i0,6,1,1,0;", 7, 6);
+            keptBySix(more, 800001);
+        });
+    }
+
+    /** What six keep, in millionths, by what comes of each sense. */
+    private static void keptBySix(String six, long millionths) {
+        MouthsToJudge court = Boundaries.laid(six, 0, 1, 2, 3, 4, 5);
+        long sum = 0;
+        for (int s = 0; s < 10; s++) {
+            sum += court.comes(s, s, 0) * (1000000L / court.comes(s, s, 1));
+        }
+        due("millionths kept", sum, millionths);
     }
 
     private static void bestAnswers() {
