@@ -409,23 +409,32 @@ public final class OddsBoundariesTest {
             best(less + "i0,6,0,1,0;", 7, 6);
             best(less + "i0,6,0,1,0;", 5, 6);
             best(less + "i0,6,1,1,0;", 7, six);
-            keptBySix(less, 999999);
+            kept(less, 1000000, 999999);
             String more = "t0,6;i0,1,4,9,0;i1,2,3,7,0;i2,3,5,9,0;i3,4,3,3,0;i4,5,4,3,0;i5,6,3,7,0;";
             best(more + "i0,6,5,1,0;", 7, six);
             best(more + "i0,6,5,1,0;", 5, 6);
             best(more + "i0,6,1,1,0;", 7, 6);
-            keptBySix(more, 800001);
+            kept(more, 1000000, 800001);
+            // Four ten-millionths: round by six and then on by the last, who alone keeps 0.8.
+            String round = "t0,6;i0,1,4,8,0;i1,2,1,7,0;i2,3,3,6,0;i3,4,5,9,0;i4,5,3,7,0;i5,0,4,9,0;"
+                + "i0,6,5,1,0;h0,6;";
+            best(round, 7, ALL);
+            best(round, 6, 6);
+            kept(round, 10000000, 8000004);
         });
     }
 
-    /** What six keep, in millionths, by what comes of each sense. */
-    private static void keptBySix(String six, long millionths) {
-        MouthsToJudge court = Boundaries.laid(six, 0, 1, 2, 3, 4, 5);
+    /** What a row of all keeps, told in so many parts, by what comes of each sense. */
+    private static void kept(String text, long parts, long want) {
+        MouthsToJudge court = Boundaries.laid(text);
+        for (int i = 0; i < court.count(0); i++) {
+            court.seat(i);
+        }
         long sum = 0;
         for (int s = 0; s < 10; s++) {
-            sum += court.comes(s, s, 0) * (1000000L / court.comes(s, s, 1));
+            sum += court.comes(s, s, 0) * (parts / court.comes(s, s, 1));
         }
-        due("millionths kept", sum, millionths);
+        due("what is kept, of " + parts, sum, want);
     }
 
     private static void bestAnswers() {
